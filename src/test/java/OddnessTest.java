@@ -10,6 +10,7 @@ public final class OddnessTest {
         group();
         likes();
         put();
+        putByRows();
         putFull();
         told();
         miss();
@@ -104,6 +105,24 @@ public final class OddnessTest {
             c.due("times " + no, x.put(0, no), WireWatch.OUTSIDE);
         }
         c.due("unchanged by these", x.told(0, 0), 101);
+    }
+
+    /** Each row of the sketch by itself: told is the least of the three numbers. */
+    private static void putByRows() {
+        WireWatch x = new WireWatch();
+        int[][] rows = new int[3][16];
+        int[] a = {31, 57, 83};
+        int[] b = {7, 19, 5};
+        for (int k = 0; k < 150; k++) {
+            int thing = k * 3571 % 10000;
+            int least = Integer.MAX_VALUE;
+            for (int r = 0; r < 3; r++) {
+                int spot = (thing * a[r] + b[r]) / 97 % 16;
+                rows[r][spot] += k % 99 + 1;
+                least = Math.min(least, rows[r][spot]);
+            }
+            c.due("put " + thing, x.put(thing, k % 99 + 1), least);
+        }
     }
 
     private static void putFull() {

@@ -305,7 +305,16 @@ public final class RoadsAndTalksTest {
         Check.piece(x, 2, 4, 1, 1);
         c.due("carried length", x.about(2, 4), 1);
         c.due("carried joined", x.about(2, 3), 3);
-        c.due("unknown", x.about(3, 9), WireWatch.UNKNOWN);
+        x.talk(0, 0, 1);
+        for (int place = 0; place < 60; place += 20) {
+            Check.piece(x, 3, place, 1, new int[20]);
+        }
+        c.due("joined, no more beyond 60", x.about(3, 3), 60);
+        Check.piece(x, 3, 59, 1, new int[20]);
+        c.due("joined to the last place", x.about(3, 3), 79);
+        Check.row(x, 0, 0, 0, 0, 0, 0);
+        c.due("a row to the last place", x.fits(0, 3, 1, 0), 74);
+        c.due("unknown", x.about(4, 9), WireWatch.UNKNOWN);
         c.due("unknown below", x.about(-1, 0), WireWatch.UNKNOWN);
         c.due("what 9", x.about(0, 9), WireWatch.OUTSIDE);
         c.due("what -1", x.about(0, -1), WireWatch.OUTSIDE);

@@ -66,6 +66,9 @@ public final class TrapsTest {
         c.due("a sign of 4", x.grow(0, 2, 8, 3), WireWatch.OUTSIDE);
         c.due("a sign of -1", x.grow(0, 2, 11, 1), WireWatch.OUTSIDE);
         c.due("no fault", x.fault(), 0);
+        x.set(0, 10, 2);
+        c.due("eleven signs", x.grow(0, 2, 0, 11), WireWatch.OUTSIDE);
+        c.due("eleven signs to go", x.gone(0, 2, 0, 11), WireWatch.OUTSIDE);
         c.due("from 1 on", x.grow(0, 2, 1, 2), 2);
         c.due("by 1", x.next(0, 1), 1);
         c.due("by 2", x.next(1, 2), 2);
