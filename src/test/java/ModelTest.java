@@ -1,5 +1,3 @@
-import java.lang.reflect.InvocationTargetException;
-import java.lang.reflect.Method;
 import java.util.ArrayList;
 import java.util.Arrays;
 import java.util.List;
@@ -31,7 +29,7 @@ public final class ModelTest {
     private static final int[] EDGES = {-1, -2, 10, 14, 16, 60, 61, 79, 100, 128, 999, 1000, 1024, 9999, 10000, 16383,
         16384, Integer.MIN_VALUE, Integer.MAX_VALUE};
 
-    public static void main(String[] args) throws ReflectiveOperationException {
+    public static void main(String[] args) {
         Check c = new Check();
         int wrong = 0;
         int runs = 0;
@@ -49,7 +47,7 @@ public final class ModelTest {
         c.end();
     }
 
-    private static boolean isRunAlike(Random chance, int kind, boolean shown) throws ReflectiveOperationException {
+    private static boolean isRunAlike(Random chance, int kind, boolean shown) {
         WireWatch x = new WireWatch();
         Model model = new Model();
         List<String> told = new ArrayList<>();
@@ -64,8 +62,8 @@ public final class ModelTest {
             }
             String[] call = CALLS_BY_KIND[kind][which].split(" ");
             Object[] numbers = numbers(chance, call.length > 2 ? call[2] : "");
-            long got = ask(x, call[0], numbers);
-            long due = ask(model, call[0], numbers);
+            long got = Calls.ask(x, call[0], numbers);
+            long due = Calls.ask(model, call[0], numbers);
             told.add(call[0] + Arrays.toString(numbers) + " = " + due);
             if (got != due) {
                 if (shown) {
@@ -79,7 +77,7 @@ public final class ModelTest {
     }
 
     /** Makes refusals for want of talks, sheets and the like rarer. */
-    private static void begin(WireWatch x, Model model, Random chance, int kind) throws ReflectiveOperationException {
+    private static void begin(WireWatch x, Model model, Random chance, int kind) {
         for (int k = 0; k < 4; k++) {
             both(x, model, "sheet", k, k % 3, kind == 3 ? 14 : 24);
         }
@@ -92,25 +90,9 @@ public final class ModelTest {
         }
     }
 
-    private static void both(WireWatch x, Model model, String name, Object... numbers)
-            throws ReflectiveOperationException {
-        ask(x, name, numbers);
-        ask(model, name, numbers);
-    }
-
-    private static long ask(Object object, String name, Object... numbers) throws ReflectiveOperationException {
-        for (Method m : object.getClass().getDeclaredMethods()) {
-            boolean isIt = m.getName().equals(name) && m.getParameterCount() == numbers.length
-                && !java.lang.reflect.Modifier.isPrivate(m.getModifiers());
-            if (isIt) {
-                try {
-                    return ((Number) m.invoke(object, numbers)).longValue();
-                } catch (InvocationTargetException e) {
-                    throw new IllegalStateException(name + Arrays.toString(numbers), e.getCause());
-                }
-            }
-        }
-        throw new IllegalStateException(name);
+    private static void both(WireWatch x, Model model, String name, Object... numbers) {
+        Calls.ask(x, name, numbers);
+        Calls.ask(model, name, numbers);
     }
 
     private static Object[] numbers(Random chance, String letters) {
@@ -156,7 +138,7 @@ public final class ModelTest {
     }
 
     /** Many findings at few ticks, some cleared, and all manner of texts: chains, where a short cut is taken. */
-    private static boolean areChainsAlike(Random chance) throws ReflectiveOperationException {
+    private static boolean areChainsAlike(Random chance) {
         WireWatch x = new WireWatch();
         Model model = new Model();
         for (int m = 1; m < 3; m++) {
