@@ -100,6 +100,17 @@ public final class EdgesOfRoadsTest extends Edge {
         due(1, "road", 0, 1, true);
         due(0, "many", 1);
         due(UNKNOWN, "shut", 0, true);
+        edge("its POST is gone then: from both its ends, whichever is told first");
+        for (int a = 0; a < 2; a++) {
+            watched(0, 1);
+            due(1, "road", a, 1 - a, false);
+            roads(0, 1);
+            due(0, "post", 0, 1, false);
+            due(0, "post", 1, 0, false);
+            due(1, "blind", 0, 1);
+            due(1, "blind", 1, 0);
+            due(1, "road", 0, 1, false);
+        }
         edge("its POST is gone then: of this ROAD alone");
         watched(0, 1);
         watched(0, 2);
@@ -283,6 +294,15 @@ public final class EdgesOfRoadsTest extends Edge {
         due(0, "door", 0, 9);
         due(1, "shut", 0, true);
         due(0, "blind", 4, 5);
+        edge("a WAY without a POST: of ROADS whose DOORS are not shut");
+        roads(0, 1, 2);
+        due(0, "door", 0, 1);
+        due(1, "door", 1, 2);
+        due(1, "blind", 0, 2);
+        due(1, "blind", 1, 2);
+        due(1, "shut", 0, true);
+        due(0, "blind", 0, 2);
+        due(1, "blind", 1, 2);
         edge("Whether it is BLIND: 1, 0. UNKNOWN; OUTSIDE: both are one.");
         due(UNKNOWN, "blind", NO_MACHINE, 0);
         due(UNKNOWN, "blind", 0, NO_MACHINE);
@@ -387,6 +407,14 @@ public final class EdgesOfRoadsTest extends Edge {
             due(INDEX, "piece", 0, 0, 0, lane, lane, 0, new int[] {6, 20, 21, GREATEST});
             due(INDEX, "piece", 0, 0, 0, lane, lane, 4, new int[] {2, GREATEST});
         }
+        edge("n cells of a SHEET from i on: the last ones of the longest");
+        watched(0, 1);
+        due(0, "talk", 0, 0, 1);
+        due(1, "sheet", 0, 2, 60);
+        due(1, "set", 0, 59, 7);
+        due(1, "piece", 0, 59, 0, 0, 2, 40, 20);
+        due(7, "at", 0, 0, 78);
+        due(INDEX, "piece", 0, 59, 0, 0, 2, 41, 20);
         edge("INDEX (of cells from i on also where i is not 0 .. how many there are, if none of them is taken, too)");
         watched(0, 1);
         due(0, "talk", 0, 0, 1);

@@ -6,6 +6,7 @@ public final class EdgesOfRowsTest extends Edge {
     public static void main(String[] args) {
         rowEnds();
         rowFaults();
+        rowAtTheEnd();
         rowOrder();
         fitsWithinJoined();
         fitsRefused();
@@ -77,6 +78,19 @@ public final class EdgesOfRowsTest extends Edge {
         due(OUTSIDE, "row", 3, 0, 0, 0);
         due(INDEX, "row", 3, 0, 0, 1);
         due(INDEX, "row", 3, 0, new int[] {-1, 1}, 0);
+    }
+
+    private static void rowAtTheEnd() {
+        edge("n cells of a SHEET from i on: the last ones of the longest");
+        due(1, "sheet", 0, 0, 60);
+        due(0, "row", 0, 0, 54, 6);
+        due(INDEX, "row", 0, 0, 55, 6);
+        due(1, "set", 0, 57, 48);
+        due(1, "set", 0, 58, 64);
+        due(1, "set", 0, 59, 57);
+        due(0, "chain", 0, 0, 57, 3);
+        due(-102, "chain", 0, 0, 57, 2);
+        due(INDEX, "chain", 0, 0, 57, 4);
     }
 
     private static void rowOrder() {
@@ -259,6 +273,14 @@ public final class EdgesOfRowsTest extends Edge {
             due(is == 0 ? 0 : is - 1, "clear", 0, is);
             due(0, "scan", 1);
         }
+        edge("in some READING: in the first one alone");
+        watched(0, 1);
+        row(0, 1);
+        due(0, "talk", 0, 0, 1);
+        piece(1, 0, 0, 0, 1);
+        piece(1, 0, 0, 0, 2);
+        due(0, "fits", 0, 0, 1, 0);
+        due(1, "scan", 0);
         edge("in some READING: in the second one alone");
         watched(0, 1);
         row(0, 2);

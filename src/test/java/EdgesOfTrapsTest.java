@@ -10,6 +10,7 @@ public final class EdgesOfTrapsTest extends Edge {
         growFaults();
         growOrder();
         goneEnds();
+        goneAtTheEnd();
         goneFaults();
         goneBarred();
         answer();
@@ -197,6 +198,17 @@ public final class EdgesOfTrapsTest extends Edge {
         due(10, "gone", 0, 1, 0, 10);
         due(OUTSIDE, "gone", 0, 1, 0, 11);
         due(OUTSIDE, "gone", 0, 1, 10, 2);
+    }
+
+    private static void goneAtTheEnd() {
+        edge("n such cells: the last ones of the longest SHEET");
+        due(1, "sheet", 0, 2, 60);
+        due(10, "grow", 0, 2, 50, 10);
+        due(10, "gone", 0, 2, 50, 10);
+        due(1, "gone", 0, 2, 59, 1);
+        due(0, "gone", 0, 2, 60, 0);
+        due(INDEX, "grow", 0, 2, 51, 10);
+        due(INDEX, "gone", 0, 2, 51, 10);
     }
 
     private static void goneFaults() {

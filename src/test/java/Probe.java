@@ -167,6 +167,10 @@ final class Probe {
                 see("door", a, b);
             }
         }
+        // A door whose road was gone could not be asked before.
+        for (int d = 0; d < 8; d++) {
+            see("shut", d, false);
+        }
     }
 
     /** What sealed talks have been told is seen by what other pieces change, now that all roads have posts. */
