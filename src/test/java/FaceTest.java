@@ -110,6 +110,10 @@ public final class FaceTest {
         for (Class<?> part : face.getDeclaredClasses()) {
             c.isTrue("static: " + part, Modifier.isStatic(part.getModifiers()) && !Modifier.isPublic(part.getModifiers()));
             c.isTrue("few fields: " + part, fields(part) <= 20);
+            for (Field f : part.getDeclaredFields()) {
+                boolean isStatic = Modifier.isStatic(f.getModifiers());
+                c.isTrue("no static state: " + f, !isStatic || Modifier.isFinal(f.getModifiers()));
+            }
             for (Method m : part.getDeclaredMethods()) {
                 c.isTrue("a name of its own: " + m, !names.contains(m.getName()));
                 c.isTrue("at most seven parameters: " + m, m.getParameterCount() <= 7);

@@ -2,6 +2,8 @@ import java.io.IOException;
 import java.nio.file.Files;
 import java.nio.file.Path;
 import java.util.Arrays;
+import java.util.HashMap;
+import java.util.Map;
 import java.util.Set;
 import java.util.TreeSet;
 import java.util.regex.Matcher;
@@ -31,6 +33,7 @@ public final class LanguageTest {
         c.isTrue("the import", text.contains("import java.util.Arrays;"));
         c.isTrue("own equals, hashCode, toString", !text.matches("(?s).*\\b(equals|hashCode|toString)\\b.*"));
         library(c, text);
+        loops(c, text);
         methods(c, text);
         c.end();
     }
@@ -52,9 +55,21 @@ public final class LanguageTest {
         }
     }
 
+    /** A loop's own line has the counter's bound. */
+    private static void loops(Check c, String text) {
+        Matcher loops = Pattern.compile("\\b(for|while) \\((.*)\\) \\{").matcher(text);
+        int found = 0;
+        while (loops.find()) {
+            found++;
+            c.isTrue("an end: " + loops.group(), loops.group(2).matches(".* <=? .*"));
+        }
+        c.due("every loop was looked at", found, text.split("\\b(for|while|do)\\b", -1).length - 1);
+    }
+
     private static void methods(Check c, String text) {
         String[] lines = text.split("\n");
-        Pattern head = Pattern.compile("^( {4}| {8})\\S[^=;]*\\([^;]*\\) \\{$");
+        Pattern head = Pattern.compile("^( {4}| {8})\\S[^=;]*?(\\w+)\\([^;]*\\) \\{$");
+        Map<String, String> bodies = new HashMap<>();
         int methods = 0;
         for (int k = 0; k < lines.length; k++) {
             Matcher m = head.matcher(lines[k]);
@@ -62,8 +77,32 @@ public final class LanguageTest {
                 methods++;
                 int end = Arrays.asList(lines).subList(k, lines.length).indexOf(m.group(1) + "}");
                 c.isTrue("short: " + lines[k].strip(), end > 0 && end < 60);
+                String body = String.join("\n", Arrays.copyOfRange(lines, k + 1, k + Math.max(end, 1)));
+                // methods of one name are taken as one, which can only make the calls look deeper
+                bodies.merge(m.group(2), body, String::concat);
             }
         }
         c.isTrue("methods were found", methods > 100);
+        for (String name : bodies.keySet()) {
+            c.isTrue("calls from " + name + " go at most eight deep", depth(c, bodies, name, 1) <= 8);
+        }
+    }
+
+    /** How deep calls go; the one recursion, which counts its sizes down, is left out. */
+    private static int depth(Check c, Map<String, String> bodies, String name, int open) {
+        int deepest = 1;
+        if (open > 20) {
+            c.isTrue("a recursion by " + name, false);
+            return deepest;
+        }
+        Matcher calls = Pattern.compile("\\b(\\w+)\\(").matcher(bodies.get(name));
+        while (calls.find()) {
+            String called = calls.group(1);
+            boolean isKnown = called.equals("setsWith") && name.equals("setsWith");
+            if (bodies.containsKey(called) && !isKnown) {
+                deepest = Math.max(deepest, 1 + depth(c, bodies, called, open + 1));
+            }
+        }
+        return deepest;
     }
 }
